@@ -681,7 +681,7 @@ public final class Signatory {
         int signedOn;
         int papersWhenSigned;
         int sum;
-        char status = WAITS;
+        char status;
         char lack = NO_LACK;
         int lackPower = NONE;
         int lackDepth;

@@ -17,6 +17,8 @@ public final class DeedsTest {
         promises25And26Window();
         promises25And26Annulled();
         promise28LaterPapers();
+        promise28SmallestSum();
+        promises26And28AllPapers();
         promise28Absence();
         promise28Ratified();
         promise28Sum();
@@ -293,6 +295,27 @@ public final class DeedsTest {
         standsOf(book, 0, true, "all that was told later");
     }
 
+    private static void promise28SmallestSum() {
+        Signatory book = bookWith(1);
+        book.sign(0, 0, 1, 0);
+        book.grant(0, 0, 's', 1, 0, 999);
+        standsOf(book, 0, false, "the smallest sum, and the power was granted later");
+    }
+
+    private static void promises26And28AllPapers() {
+        Signatory book = bookWith(1);
+        book.grant(0, 0, 's', 99999, 0, 999);
+        book.sign(0, 0, 7, 0);
+        book.pass(10);
+        for (int call = 0; call < 504; call++) {
+            book.setWindow(call % 2 == 0 ? 1 : 11);
+        }
+        book.sign(0, 0, 5, 0);
+        sumsOf(book, 1, 12, "the last of more than 500 windows");
+        book.lower(0, 11);
+        standsOf(book, 1, true, "with more than 500 papers");
+    }
+
     private static void promise28Absence() {
         Signatory book = bookWith(3);
         book.grant(0, 0, 's', 100, 0, 999);
@@ -448,6 +471,18 @@ public final class DeedsTest {
         deep.lower(0, 10);
         deep.sign(2, 0, 11, 0);
         lackOf(deep, 0, 'l', 2, 2, "two steps");
+        deep.grant(2, 1, 's', 100, 0, 999);
+        deep.delegate(3, 1, 90, 0, 999);
+        deep.delegate(4, 0, 80, 0, 999);
+        deep.sign(0, 1, 85, 1);
+        lackOf(deep, 1, 'l', 5, 0, "its own, though it has sources");
+        deep.sign(0, 1, 95, 2);
+        lackOf(deep, 2, 'l', 5, 1, "one of two steps");
+        deep.leave(2, 0);
+        deep.grant(1, 2, 's', 5, 0, 999);
+        deep.leave(1, 0);
+        deep.signTogether(2, 0, 2, 6, 3);
+        lackOf(deep, 3, 'l', 6, 0, "the second signer acts as a substitute");
     }
 
     private static void promises29To31AreKept() {

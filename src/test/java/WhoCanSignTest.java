@@ -111,6 +111,9 @@ public final class WhoCanSignTest {
         book.leave(0, 3);
         checks.due("17: with a substitute", 3, () -> book.signers(2, 100));
         checks.due("17: the greatest sum", 1, () -> book.signers(2, 99999));
+        book.leave(0, -1);
+        checks.due("17: without a substitute", 2, () -> book.signers(2, 100));
+        book.leave(0, 3);
         book.pass(1);
         checks.due("17: a day later", 1, () -> book.signers(2, 1));
         for (int wrong : NO_KINDS) {
@@ -155,6 +158,10 @@ public final class WhoCanSignTest {
         pairsAre("a substitute", 2, book, 0, 200);
         book.leave(1, 6);
         pairsAre("a substitute with both hands", 3, book, 0, 200);
+        book.leave(0, -1);
+        book.leave(1, -1);
+        pairsAre("absent without substitutes", 1, book, 0, 200);
+        pairsAre("absent, and some sign alone", 19, book, 0, 80);
         Signatory all = bookWith(8);
         for (int person = 0; person < 8; person++) {
             all.grant(person, 3, 's', 99999, 0, 0);
