@@ -6,11 +6,17 @@ final class Checks {
     }
 
     private final String title;
+    private String sentence = "";
     private int asked;
     private int wrong;
 
     Checks(String title) {
         this.title = title;
+    }
+
+    /** Names the sentence of the document, with the number of its promise, that the next answers belong to. */
+    void sentence(String words) {
+        sentence = words + " | ";
     }
 
     /** The answer as a text; an exception of the program as "throws." and its name. */
@@ -36,7 +42,7 @@ final class Checks {
         String got = answerOf(call);
         if (!got.equals(String.valueOf(want))) {
             wrong++;
-            System.out.println(what + ": answered " + got + ", due is " + want);
+            System.out.println(sentence + what + ": answered " + got + ", due is " + want);
         }
     }
 

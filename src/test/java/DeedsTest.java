@@ -30,14 +30,6 @@ public final class DeedsTest {
         checks.end();
     }
 
-    private static Signatory bookWith(int persons) {
-        Signatory book = new Signatory();
-        for (int person = 0; person < persons; person++) {
-            book.addPerson();
-        }
-        return book;
-    }
-
     private static void standsOf(Signatory book, int deed, boolean want, String what) {
         checks.due("27: " + what, want, () -> book.stands(deed));
         checks.due("28: " + what, want, () -> book.standsByPapers(deed));
@@ -55,7 +47,7 @@ public final class DeedsTest {
     }
 
     private static void promise20Sign() {
-        Signatory book = bookWith(3);
+        Signatory book = Books.with(3);
         book.grant(0, 1, 's', 9999, 0, 999);
         checks.due("20: the first deed", 0, () -> book.sign(0, 1, 9999, 0));
         checks.due("20: it stands", 's', () -> book.status(0));
@@ -83,7 +75,7 @@ public final class DeedsTest {
     }
 
     private static void promise21SignTogether() {
-        Signatory book = bookWith(4);
+        Signatory book = Books.with(4);
         book.grant(0, 1, 'a', 100, 0, 999);
         book.grant(1, 1, 'b', 100, 0, 999);
         book.grant(2, 1, 's', 50, 0, 999);
@@ -116,7 +108,7 @@ public final class DeedsTest {
     }
 
     private static void promises20And21Room() {
-        Signatory book = bookWith(2);
+        Signatory book = Books.with(2);
         for (int deed = 0; deed < 24; deed += 2) {
             int due = deed;
             checks.due("20: up to 24 deeds", due, () -> book.sign(0, 0, 9999, 0));
@@ -135,7 +127,7 @@ public final class DeedsTest {
     }
 
     private static void promise22Ratify() {
-        Signatory book = bookWith(3);
+        Signatory book = Books.with(3);
         book.grant(0, 0, 'a', 999, 0, 999);
         book.grant(1, 0, 's', 70, 2, 999);
         book.sign(0, 0, 40, 1);
@@ -165,14 +157,14 @@ public final class DeedsTest {
         }
         checks.index("22: deed 5 is not there", () -> book.ratify(5, 1));
         checks.index("22: person 3 is not there", () -> book.ratify(3, 3));
-        Signatory own = bookWith(1);
+        Signatory own = Books.with(1);
         own.sign(0, 0, 5, 0);
         own.grant(0, 0, 's', 5, 0, 0);
         checks.due("22: its own signer", 5, () -> own.ratify(0, 0));
     }
 
     private static void promise23Annul() {
-        Signatory book = bookWith(2);
+        Signatory book = Books.with(2);
         book.grant(0, 0, 's', 70, 0, 999);
         for (int deed = 0; deed < 4; deed++) {
             book.sign(1, 0, 10, deed);
@@ -193,7 +185,7 @@ public final class DeedsTest {
     }
 
     private static void promises24And27Status() {
-        Signatory book = bookWith(2);
+        Signatory book = Books.with(2);
         book.grant(0, 0, 's', 70, 0, 999);
         book.sign(0, 0, 10, 0);
         book.sign(1, 0, 10, 1);
@@ -212,7 +204,7 @@ public final class DeedsTest {
     }
 
     private static void promises25And26Sum() {
-        Signatory book = bookWith(2);
+        Signatory book = Books.with(2);
         book.grant(0, 0, 's', 70, 0, 999);
         book.sign(0, 0, 10, 0);
         sumsOf(book, 0, 10, "the first");
@@ -231,7 +223,7 @@ public final class DeedsTest {
     }
 
     private static void promises25And26Window() {
-        Signatory book = bookWith(1);
+        Signatory book = Books.with(1);
         book.sign(0, 0, 1, 0);
         book.pass(1);
         book.sign(0, 0, 2, 0);
@@ -255,7 +247,7 @@ public final class DeedsTest {
     }
 
     private static void promises25And26Annulled() {
-        Signatory book = bookWith(1);
+        Signatory book = Books.with(1);
         book.sign(0, 0, 1, 0);
         book.sign(0, 0, 2, 0);
         book.annul(0);
@@ -271,7 +263,7 @@ public final class DeedsTest {
     }
 
     private static void promise28LaterPapers() {
-        Signatory book = bookWith(3);
+        Signatory book = Books.with(3);
         book.grant(0, 0, 's', 100, 0, 5);
         book.delegate(0, 1, 100, 0, 5);
         book.sign(1, 0, 90, 0);
@@ -296,18 +288,18 @@ public final class DeedsTest {
     }
 
     private static void promise28SmallestSum() {
-        Signatory book = bookWith(1);
+        Signatory book = Books.with(1);
         book.sign(0, 0, 1, 0);
         book.grant(0, 0, 's', 1, 0, 999);
         standsOf(book, 0, false, "the smallest sum, and the power was granted later");
     }
 
     private static void promises26And28AllPapers() {
-        Signatory book = bookWith(1);
+        Signatory book = Books.with(1);
         book.grant(0, 0, 's', 99999, 0, 999);
         book.sign(0, 0, 7, 0);
         book.pass(10);
-        for (int call = 0; call < 504; call++) {
+        for (int call = 0; call < 502; call++) {
             book.setWindow(call % 2 == 0 ? 1 : 11);
         }
         book.sign(0, 0, 5, 0);
@@ -317,7 +309,7 @@ public final class DeedsTest {
     }
 
     private static void promise28Absence() {
-        Signatory book = bookWith(3);
+        Signatory book = Books.with(3);
         book.grant(0, 0, 's', 100, 0, 999);
         book.leave(0, 1);
         book.sign(1, 0, 10, 0);
@@ -342,7 +334,7 @@ public final class DeedsTest {
     }
 
     private static void promise28Ratified() {
-        Signatory book = bookWith(3);
+        Signatory book = Books.with(3);
         book.sign(0, 0, 60, 0);
         book.sign(0, 0, 10, 0);
         book.pass(40);
@@ -363,7 +355,7 @@ public final class DeedsTest {
     }
 
     private static void promise28Sum() {
-        Signatory book = bookWith(2);
+        Signatory book = Books.with(2);
         book.grant(0, 0, 's', 50, 0, 999);
         book.sign(1, 0, 30, 0);
         book.sign(0, 0, 30, 0);
@@ -383,7 +375,7 @@ public final class DeedsTest {
     }
 
     private static void promises29To31OneSigner() {
-        Signatory book = bookWith(4);
+        Signatory book = Books.with(4);
         book.grant(1, 2, 's', 100, 0, 999);
         book.sign(0, 2, 200, 0);
         checks.due("29: no power", 'k', () -> book.lack(0));
@@ -428,7 +420,7 @@ public final class DeedsTest {
     }
 
     private static void promises29To31TwoSigners() {
-        Signatory book = bookWith(4);
+        Signatory book = Books.with(4);
         book.signTogether(0, 1, 0, 100, 0);
         checks.due("29: no power of both", 'k', () -> book.lack(0));
         book.grant(1, 0, 's', 10, 0, 999);
@@ -464,7 +456,7 @@ public final class DeedsTest {
         book.leave(2, 0);
         book.sign(2, 1, 5, 9);
         checks.due("29: another kind", 'k', () -> book.lack(10));
-        Signatory deep = bookWith(3);
+        Signatory deep = Books.with(3);
         deep.grant(0, 0, 's', 100, 0, 999);
         deep.delegate(0, 1, 90, 0, 999);
         deep.delegate(1, 2, 80, 0, 999);
@@ -486,7 +478,7 @@ public final class DeedsTest {
     }
 
     private static void promises29To31AreKept() {
-        Signatory book = bookWith(3);
+        Signatory book = Books.with(3);
         book.grant(0, 0, 's', 100, 0, 999);
         book.delegate(0, 1, 90, 0, 999);
         book.lower(0, 10);
@@ -518,7 +510,7 @@ public final class DeedsTest {
     }
 
     private static void noSuchDeed() {
-        Signatory book = bookWith(1);
+        Signatory book = Books.with(1);
         book.sign(0, 0, 1, 0);
         for (int wrong : new int[] {-1, 1, 24, Integer.MIN_VALUE, Integer.MAX_VALUE}) {
             checks.index("24: no deed " + wrong, () -> book.status(wrong));

@@ -13,14 +13,6 @@ public final class PersonsTest {
         checks.end();
     }
 
-    private static Signatory bookWith(int persons) {
-        Signatory book = new Signatory();
-        for (int person = 0; person < persons; person++) {
-            book.addPerson();
-        }
-        return book;
-    }
-
     private static void promise1NewObject() {
         Signatory book = new Signatory();
         checks.due("1: today", 0, book::today);
@@ -31,7 +23,7 @@ public final class PersonsTest {
         checks.noElement("1: no deed to stand", book::standingShare);
         checks.due("1: no signers", 0, () -> book.signers(0, 1));
         checks.due("1: no pairs", 0, () -> book.pairs(0, 1));
-        Signatory used = bookWith(3);
+        Signatory used = Books.with(3);
         used.pass(9);
         checks.due("1: another object is a book of its own", 0, () -> new Signatory().addPerson());
         checks.due("1: its day too", 0, () -> new Signatory().today());
@@ -49,7 +41,7 @@ public final class PersonsTest {
     }
 
     private static void promise3Leave() {
-        Signatory book = bookWith(3);
+        Signatory book = Books.with(3);
         checks.due("3: present before", -1, () -> book.leave(0, 1));
         checks.due("3: in place of what was told", 1, () -> book.leave(0, 2));
         checks.due("3: only the last substitute acts", false, () -> book.actsFor(1, 0));
@@ -73,7 +65,7 @@ public final class PersonsTest {
     }
 
     private static void promise4ComeBack() {
-        Signatory book = bookWith(3);
+        Signatory book = Books.with(3);
         checks.state("4: present at first", () -> book.comeBack(0));
         book.leave(0, 2);
         checks.due("4: the substitute before", 2, () -> book.comeBack(0));
@@ -90,7 +82,7 @@ public final class PersonsTest {
     }
 
     private static void promise5ActsFor() {
-        Signatory book = bookWith(4);
+        Signatory book = Books.with(4);
         checks.due("5: both the same", true, () -> book.actsFor(1, 1));
         checks.due("5: present", false, () -> book.actsFor(1, 0));
         book.leave(0, 1);

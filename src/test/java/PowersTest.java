@@ -19,17 +19,9 @@ public final class PowersTest {
         checks.end();
     }
 
-    private static Signatory bookWith(int persons) {
-        Signatory book = new Signatory();
-        for (int person = 0; person < persons; person++) {
-            book.addPerson();
-        }
-        return book;
-    }
-
     /** Power 0 of person 0, from it power 1 of person 1, from this power 2 of person 2; all of kind 1 and hand s. */
     private static Signatory chain() {
-        Signatory book = bookWith(3);
+        Signatory book = Books.with(3);
         book.grant(0, 1, 's', 100, 0, 50);
         book.delegate(0, 1, 80, 5, 40);
         book.delegate(1, 2, 60, 10, 30);
@@ -37,7 +29,7 @@ public final class PowersTest {
     }
 
     private static void promise6Grant() {
-        Signatory book = bookWith(2);
+        Signatory book = Books.with(2);
         checks.due("6: first power", 0, () -> book.grant(0, 0, 's', 1, 0, 0));
         checks.due("6: one holder may hold more", 1, () -> book.grant(0, 3, 'a', 99999, 999, 999));
         checks.due("6: hand b, all days", 2, () -> book.grant(1, 2, 'b', 500, 0, 999));
@@ -64,7 +56,7 @@ public final class PowersTest {
     }
 
     private static void promise6Order() {
-        Signatory book = bookWith(2);
+        Signatory book = Books.with(2);
         checks.index("6: person ahead of the rest", () -> book.grant(2, 4, 'x', 0, -1, -1));
         for (int power = 0; power < 20; power++) {
             int due = power;
@@ -79,7 +71,7 @@ public final class PowersTest {
     }
 
     private static void promise7Delegate() {
-        Signatory book = bookWith(3);
+        Signatory book = Books.with(3);
         book.grant(0, 2, 'a', 100, 10, 50);
         book.grant(2, 2, 'b', 100, 0, 999);
         book.pass(10);
@@ -105,7 +97,7 @@ public final class PowersTest {
     }
 
     private static void promise7Order() {
-        Signatory book = bookWith(2);
+        Signatory book = Books.with(2);
         book.grant(0, 0, 's', 100, 10, 50);
         for (int wrong : NO_NUMBERS) {
             checks.index("7: no power " + wrong, () -> book.delegate(wrong, 1, 0, -1, -1));
@@ -258,7 +250,7 @@ public final class PowersTest {
     }
 
     private static void deepest() {
-        Signatory book = bookWith(2);
+        Signatory book = Books.with(2);
         book.grant(0, 0, 's', 99999, 0, 999);
         for (int power = 0; power < 19; power++) {
             book.delegate(power, (power + 1) % 2, 99999, 0, 999);

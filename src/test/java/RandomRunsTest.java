@@ -8,10 +8,14 @@ import java.util.TreeSet;
 public final class RandomRunsTest {
     private static final int RUNS = 1500;
     private static final int CALLS = 512;
+    /** More steps than calls, as some steps make no call, and some make more than one. */
+    private static final int STEPS = 600;
     private static final int METHODS = 35;
     private static final Checks checks = new Checks("RandomRunsTest");
 
     private static long seed;
+    /** How many calls the book has had: what it answers behind the 512th is free. */
+    private static int calls;
     private static Signatory book;
     private static PlainSignatory plain;
     /** Every answer that came, so that it is noticed if the runs never get anywhere. */
@@ -22,11 +26,12 @@ public final class RandomRunsTest {
             seed = run * 7919L + 17;
             book = new Signatory();
             plain = new PlainSignatory();
+            calls = 0;
             int persons = 1 + below(8);
             for (int person = 0; person < persons; person++) {
                 compare("addPerson()", book::addPerson, plain::addPerson);
             }
-            for (int call = persons; call < CALLS; call++) {
+            for (int step = persons; step < STEPS; step++) {
                 step(run % 3);
             }
         }
@@ -225,6 +230,10 @@ public final class RandomRunsTest {
     }
 
     private static void compare(String what, Checks.Call call, Checks.Call plainCall) {
+        if (calls >= CALLS) {
+            return;
+        }
+        calls++;
         String want = Checks.answerOf(plainCall);
         checks.due(what, want, call);
         seen.add(what.substring(0, what.indexOf('(')) + " " + want);

@@ -14,16 +14,8 @@ public final class WhoCanSignTest {
         checks.end();
     }
 
-    private static Signatory bookWith(int persons) {
-        Signatory book = new Signatory();
-        for (int person = 0; person < persons; person++) {
-            book.addPerson();
-        }
-        return book;
-    }
-
     private static void promise15CanSign() {
-        Signatory book = bookWith(4);
+        Signatory book = Books.with(4);
         book.grant(0, 1, 's', 99999, 1, 2);
         book.grant(1, 1, 'a', 500, 0, 999);
         book.grant(1, 1, 'b', 500, 0, 999);
@@ -62,7 +54,7 @@ public final class WhoCanSignTest {
     }
 
     private static void promise16CanSignTogether() {
-        Signatory book = bookWith(5);
+        Signatory book = Books.with(5);
         book.grant(0, 1, 'a', 100, 0, 999);
         book.grant(1, 1, 'b', 200, 0, 999);
         book.grant(2, 1, 's', 50, 0, 999);
@@ -98,7 +90,7 @@ public final class WhoCanSignTest {
     }
 
     private static void promise17Signers() {
-        Signatory book = bookWith(8);
+        Signatory book = Books.with(8);
         checks.due("17: none", 0, () -> book.signers(2, 1));
         book.grant(0, 2, 's', 100, 0, 0);
         book.grant(0, 2, 's', 100, 0, 0);
@@ -130,7 +122,7 @@ public final class WhoCanSignTest {
     }
 
     private static void promises18And19Pairs() {
-        Signatory book = bookWith(1);
+        Signatory book = Books.with(1);
         book.grant(0, 0, 's', 100, 0, 999);
         pairsAre("one person is no pair", 0, book, 0, 1);
         for (int person = 1; person < 8; person++) {
@@ -162,7 +154,7 @@ public final class WhoCanSignTest {
         book.leave(1, -1);
         pairsAre("absent without substitutes", 1, book, 0, 200);
         pairsAre("absent, and some sign alone", 19, book, 0, 80);
-        Signatory all = bookWith(8);
+        Signatory all = Books.with(8);
         for (int person = 0; person < 8; person++) {
             all.grant(person, 3, 's', 99999, 0, 0);
         }
@@ -172,7 +164,7 @@ public final class WhoCanSignTest {
     }
 
     private static void promises18And19WrongInputs() {
-        Signatory book = bookWith(2);
+        Signatory book = Books.with(2);
         for (int wrong : NO_KINDS) {
             checks.argument("18: no kind " + wrong, () -> book.pairs(wrong, 1));
             checks.argument("19: no kind " + wrong, () -> book.pairsByTrying(wrong, 1));
