@@ -1,9 +1,16 @@
+import java.util.NoSuchElementException;
+import java.util.Set;
+
 /** Counts the answers of calls that are not as due, and prints them. */
 final class Checks {
     /** A call that answers something, or throws. */
     interface Call {
         Object answer();
     }
+
+    /** All that the document lets a call throw; the machine throws classes below these, or others. */
+    private static final Set<Class<?>> DOCUMENT = Set.of(IllegalStateException.class, IllegalArgumentException.class,
+            IndexOutOfBoundsException.class, UnsupportedOperationException.class, NoSuchElementException.class);
 
     private final String title;
     private String sentence = "";
@@ -28,13 +35,17 @@ final class Checks {
         }
     }
 
-    /** What the machine or the library throws bears another mark, so that it is never as due. */
+    /**
+     * What the machine or the library throws bears another mark, so that it is never as due. The class is looked
+     * at too, as the machine's own exceptions name the program's method as their thrower.
+     */
     private static String nameOf(RuntimeException e) {
         StackTraceElement[] trace = e.getStackTrace();
         String thrower = trace.length == 0 ? "" : trace[0].getClassName();
         boolean byProgram = thrower.equals("Signatory") || thrower.startsWith("Signatory$");
         boolean byReference = thrower.equals("PlainSignatory");
-        return (byProgram || byReference ? "throws." : "THE MACHINE THROWS ") + e.getClass().getSimpleName();
+        boolean due = DOCUMENT.contains(e.getClass()) && (byProgram || byReference);
+        return (due ? "throws." : "THE MACHINE THROWS ") + e.getClass().getSimpleName();
     }
 
     void due(String what, Object want, Call call) {
